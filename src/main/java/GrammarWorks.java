@@ -808,25 +808,24 @@ public final class GrammarWorks {
     }
 
     /**
-     * Tests whether a tree can have an attribute that hangs on itself. What a tree does to the tree around
-     * it is its RELATION: a bit for each of attributes 0 and 1 of its root, set if it hangs on attribute 2.
-     * All relations that trees of a symbol can have are found, each for itself: to put them together would
-     * find rings of which each half is in another tree.
+     * Tests whether a tree can have an attribute that hangs on itself. A ring, or a way from one attribute to
+     * another, goes through attribute 2 of a node once at most, so it needs 0 or 1 of that node to hang on it,
+     * never both; and the trees of a rule's symbols can be chosen each for itself. So it is enough to know for
+     * each symbol which of 0 and 1 hangs on 2 in some tree of it, be it another tree for each.
      */
     private static final class Rings {
+        private static final int HAS_TREE = 4;
+
         private final Grammar grammar;
-        /** By symbol a bit for each relation that a tree of it can have; none if there is no tree. */
-        private final Row relations;
-        /** By place of the rule at hand a bit for each place by which its equation says what it is. */
-        private final Row direct;
+        /** By symbol HAS_TREE if there is one, and bits 0 and 1 for the attributes that hang on 2 in some tree. */
+        private final Row trees;
         /** By place of the rule at hand a bit for each place on which it hangs. */
         private final Row hangs;
         private boolean found;
 
         Rings(Grammar grammar) {
             this.grammar = grammar;
-            relations = new Row(SYMBOLS);
-            direct = new Row(PLACES);
+            trees = new Row(SYMBOLS);
             hangs = new Row(PLACES);
             found = false;
         }
@@ -837,92 +836,77 @@ public final class GrammarWorks {
 
         void search() {
             found = false;
-            relations.wipe();
+            trees.wipe();
             for (int terminal = 1; terminal <= HIGHEST_TERMINAL; terminal++) {
-                relations.set(terminal, 1);
+                trees.set(terminal, HAS_TREE);
             }
             boolean grown = true;
-            for (int round = 0; round < MANY && grown && !found; round++) {
+            for (int round = 0; round < MANY && grown; round++) {
                 grown = false;
                 for (int rule = 0; rule < grammar.size(); rule++) {
-                    if (growBy(rule)) {
+                    if (makesTrees(rule) && growBy(rule)) {
                         grown = true;
                     }
                 }
             }
         }
 
-        /** Finds the trees with a rule at the root; true if one has a relation that is new for its symbol. */
-        private boolean growBy(int rule) {
-            readEquations(rule);
-            int left = grammar.leftOf(rule);
-            int before = relations.get(left);
-            int length = grammar.lengthOf(rule);
-            int choices = 1 << (2 * length);
-            for (int choice = 0; choice < choices; choice++) {
-                if (isPossible(rule, length, choice)) {
-                    int relation = join(length, choice);
-                    relations.set(left, relations.get(left) | 1 << relation);
-                }
-            }
-            return relations.get(left) != before;
-        }
-
-        private void readEquations(int rule) {
-            for (int place = 0; place < PLACES; place++) {
-                int operation = grammar.operationAt(rule, place);
-                int sum = 0;
-                if (operation >= 1) {
-                    sum |= 1 << grammar.xAt(rule, place);
-                }
-                if (operation >= 2) {
-                    sum |= 1 << grammar.yAt(rule, place);
-                }
-                direct.set(place, sum);
-            }
-        }
-
-        private static int relationOf(int choice, int k) {
-            return choice >> (2 * (k - 1)) & 3;
-        }
-
-        private boolean isPossible(int rule, int length, int choice) {
-            for (int k = 1; k <= length; k++) {
-                int offered = relations.get(grammar.symbolAt(rule, k));
-                if ((offered >> relationOf(choice, k) & 1) == 0) {
+        private boolean makesTrees(int rule) {
+            for (int k = 1; k <= grammar.lengthOf(rule); k++) {
+                if (trees.get(grammar.symbolAt(rule, k)) == 0) {
                     return false;
                 }
             }
             return true;
         }
 
-        /** The relation of a tree whose children have the chosen relations; notes a ring if it has one. */
-        private int join(int length, int choice) {
-            for (int place = 0; place < PLACES; place++) {
-                hangs.set(place, direct.get(place));
-            }
-            for (int k = 1; k <= length; k++) {
-                int relation = relationOf(choice, k);
-                int place = k * ATTRIBUTES;
-                int down = 1 << (place + GOES_DOWN);
-                hangs.set(place, (relation & 1) != 0 ? down : 0);
-                hangs.set(place + 1, (relation & 2) != 0 ? down : 0);
-            }
-            closeHangs();
-            return (hangs.get(0) >> GOES_DOWN & 1) | (hangs.get(1) >> GOES_DOWN & 1) << 1;
-        }
-
-        private void closeHangs() {
+        /** Looks at the trees with a rule at the root; true if they tell something new of its symbol. */
+        private boolean growBy(int rule) {
+            readEquations(rule);
+            readChildren(rule);
             for (int through = 0; through < PLACES; through++) {
-                for (int place = 0; place < PLACES; place++) {
-                    if ((hangs.get(place) >> through & 1) != 0) {
-                        hangs.set(place, hangs.get(place) | hangs.get(through));
-                    }
+                passOn(through);
+            }
+            for (int place = 0; place < PLACES; place++) {
+                if (hangsOn(place, place)) {
+                    found = true;
                 }
             }
+            int left = grammar.leftOf(rule);
+            int before = trees.get(left);
+            int sum = before | HAS_TREE | (hangsOn(0, GOES_DOWN) ? 1 : 0) | (hangsOn(1, GOES_DOWN) ? 2 : 0);
+            trees.set(left, sum);
+            return sum != before;
+        }
+
+        private boolean hangsOn(int place, int other) {
+            return (hangs.get(place) >> other & 1) != 0;
+        }
+
+        private void readEquations(int rule) {
             for (int place = 0; place < PLACES; place++) {
-                if ((hangs.get(place) >> place & 1) != 0) {
-                    found = true;
+                int operation = grammar.operationAt(rule, place);
+                int x = operation >= 1 ? 1 << grammar.xAt(rule, place) : 0;
+                int y = operation >= 2 ? 1 << grammar.yAt(rule, place) : 0;
+                hangs.set(place, x | y);
+            }
+        }
+
+        private void readChildren(int rule) {
+            for (int k = 1; k <= grammar.lengthOf(rule); k++) {
+                int known = trees.get(grammar.symbolAt(rule, k));
+                int place = k * ATTRIBUTES;
+                int down = 1 << (place + GOES_DOWN);
+                hangs.set(place, (known & 1) != 0 ? down : 0);
+                hangs.set(place + 1, (known & 2) != 0 ? down : 0);
+            }
+        }
+
+        /** Lets all that hang on a place hang on what it hangs on. */
+        private void passOn(int through) {
+            for (int place = 0; place < PLACES; place++) {
+                if (hangsOn(place, through)) {
+                    hangs.set(place, hangs.get(place) | hangs.get(through));
                 }
             }
         }
