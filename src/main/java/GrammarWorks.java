@@ -220,7 +220,7 @@ public final class GrammarWorks {
         }
         int outcome = parser.run(spare);
         parser.dropTokens();
-        lastFault = Math.max(outcome, -1);
+        lastFault = outcome >= 0 ? outcome : -1;
         if (outcome == OVERFULL) {
             throw new UnsupportedOperationException("more than 150 nodes");
         }
@@ -353,28 +353,34 @@ public final class GrammarWorks {
         }
     }
 
-    /** Ints in rows and columns, without cells beyond its bounds as in a Row. */
+    /** Ints in rows and columns that have no cells beyond their bounds: there they answer 0 and take nothing. */
     private static final class Grid {
         private final int rows;
         private final int columns;
-        private final Row cells;
+        private final int[] cells;
 
         Grid(int rows, int columns) {
             this.rows = rows;
             this.columns = columns;
-            this.cells = new Row(rows * columns);
+            this.cells = new int[Math.max(0, rows * columns)];
         }
 
         int get(int row, int column) {
-            return cells.get(index(row, column));
+            int at = index(row, column);
+            return at >= 0 && at < cells.length ? cells[at] : 0;
         }
 
         void set(int row, int column, int value) {
-            cells.set(index(row, column), value);
+            int at = index(row, column);
+            if (at >= 0 && at < cells.length) {
+                cells[at] = value;
+            }
         }
 
         void wipe() {
-            cells.wipe();
+            for (int at = 0; at < cells.length; at++) {
+                cells[at] = 0;
+            }
         }
 
         private int index(int row, int column) {
@@ -457,7 +463,7 @@ public final class GrammarWorks {
 
         int lengthOf(int rule) {
             int length = 0;
-            while (length < WIDTH && symbolAt(rule, length + 1) != 0) {
+            while (length < WIDTH && sides.get(rule, length + 1) != 0) {
                 length++;
             }
             return length;
@@ -643,6 +649,7 @@ public final class GrammarWorks {
             size = 0;
             enter(0L);
             for (int state = 0; state < size && state < MOST_STATES; state++) {
+                close(state);
                 gatherNextKernels(state);
                 for (int symbol = 1; symbol < SYMBOLS; symbol++) {
                     long kernel = nextKernels.get(symbol);
@@ -682,6 +689,7 @@ public final class GrammarWorks {
             return state;
         }
 
+        /** Puts a state with its kernel alone behind the others. */
         private void enter(long kernel) {
             int state = size;
             kernels.set(state, kernel);
@@ -692,9 +700,9 @@ public final class GrammarWorks {
                 items.set(state, GOAL * DOTS, PRESENT);
             }
             size++;
-            close(state);
         }
 
+        /** Puts into a state what its kernel brings with it. */
         private void close(int state) {
             boolean grown = true;
             for (int round = 0; round < MANY && grown; round++) {

@@ -24,6 +24,7 @@ public final class ParseTest {
         attributesGoDown();
         attributesAreThoseOfTheParse();
         longChain();
+        manyParses();
         Check.end();
     }
 
@@ -399,5 +400,26 @@ public final class ParseTest {
         x.token(2, 0);
         Check.answers(81, x::parse, "parse");
         Check.answers(40 * (38 * 39 / 2), () -> x.attribute(80, 0), "all sums at each of 40 nodes");
+    }
+
+    /** What a parse with a fault leaves undone does not come into the way of later ones. */
+    private static void manyParses() {
+        GrammarWorks x = new GrammarWorks();
+        x.rule(8, 1, 8, 2, 0);
+        x.rule(8, 3, 0, 0, 0);
+        x.build();
+        for (int round = 1; round <= 20; round++) {
+            for (int k = 0; k < 15; k++) {
+                x.token(1, k);
+            }
+            Check.refuses(ARGUMENT, x::parse, "parse " + round);
+            Check.answers(15, x::fault, "fault of parse " + round);
+        }
+        for (int k = 0; k < 31; k++) {
+            x.token(k < 15 ? 1 : k == 15 ? 3 : 2, k);
+        }
+        Check.answers(31 + 16, x::parse, "parse behind many faults");
+        Check.answers(0, () -> x.node(46, 1), "its root's rule");
+        Check.answers(46, () -> x.node(0, 2), "its first node's parent");
     }
 }

@@ -11,6 +11,7 @@ public final class TableTest {
         refusals();
         lookaheadsOfEmptyRules();
         lookaheadsAreNotThoseOfFollow();
+        lookaheadsThatComeLate();
         itemWithoutLookaheads();
         fiftyStates();
         fiftyOneStates();
@@ -122,6 +123,29 @@ public final class TableTest {
         Check.answers(0, () -> x.count(3), "no conflicts");
         int state = x.go(0, 9);
         Check.answers(1, () -> x.lookaheads(state, 4), "only the end there");
+    }
+
+    /** Lookaheads come to a state on many ways, the last of them late, and still have to be handed on there. */
+    private static void lookaheadsThatComeLate() {
+        GrammarWorks x = new GrammarWorks();
+        x.rule(8, 2, 8, 0, 0);
+        x.rule(8, 3, 8, 0, 0);
+        x.rule(8, 8, 2, 2, 8);
+        x.rule(8, 1, 0, 0, 0);
+        x.rule(8, 1, 8, 8, 8);
+        x.rule(8, 8, 2, 0, 0);
+        x.build();
+        int behindTwo = x.go(x.action(0, 2), 8);
+        Check.answers(1 + 2 + 4 + 8, () -> x.lookaheads(behindTwo, 0), "what 2 begins can stand anywhere");
+        int behindThree = x.go(x.action(0, 3), 8);
+        Check.answers(1 + 2 + 4 + 8, () -> x.lookaheads(behindThree, 1), "what 3 begins can, too");
+        int firstOfThree = x.go(x.action(0, 1), 8);
+        int behindSecond = x.go(firstOfThree, 8);
+        int behindThird = x.go(behindSecond, 8);
+        Check.answers(1 + 2 + 4 + 8, () -> x.lookaheads(behindThird, 4), "what 1 begins can, too");
+        // State 15 is behind 1 8 2 2 8: rule 0 has made the third of three there, rule 2 the first or second.
+        Check.answers(1 + 2 + 4 + 8, () -> x.lookaheads(15, 0), "the end can come behind the third");
+        Check.answers(2 + 4 + 8, () -> x.lookaheads(15, 2), "but not behind the first or second");
     }
 
     /** What has no rules begins with nothing and never ends: what stands before it is never at its end. */
