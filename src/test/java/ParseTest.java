@@ -200,7 +200,7 @@ public final class ParseTest {
     }
 
     /** A 1 makes 4 nodes with 9, 10 and its part of the list, a 2 makes 3 and a 3 makes 2; the list's end makes one. */
-    private static GrammarWorks lists() {
+    static GrammarWorks lists() {
         GrammarWorks x = new GrammarWorks();
         x.rule(8, 8, 9, 0, 0);
         x.rule(8, 0, 0, 0, 0);

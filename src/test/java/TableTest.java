@@ -125,7 +125,10 @@ public final class TableTest {
         Check.answers(1, () -> x.lookaheads(state, 4), "only the end there");
     }
 
-    /** Lookaheads come to a state on many ways, the last of them late, and still have to be handed on there. */
+    /**
+     * Terms: "LOOKAHEADS are the least sets": they come to a state on many ways, the last of them late, and still have to
+     * be handed on there.
+     */
     private static void lookaheadsThatComeLate() {
         GrammarWorks x = new GrammarWorks();
         x.rule(8, 2, 8, 0, 0);
@@ -162,7 +165,7 @@ public final class TableTest {
      * Fourteen rules for 8 with four symbols each, no two of which begin with the same two symbols. The states
      * are state 0, the one behind 8, one for each first symbol, and three more for each rule.
      */
-    private static GrammarWorks broad(int lastFirst) {
+    static GrammarWorks broad(int lastFirst) {
         GrammarWorks x = new GrammarWorks();
         for (int k = 0; k < 13; k++) {
             x.rule(8, k % 6 + 1, k / 6 + 1, 1, 1);
