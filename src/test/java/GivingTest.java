@@ -149,16 +149,16 @@ public final class GivingTest {
     }
 
     private static void equationCodes() {
-        GrammarWorks x = new GrammarWorks();
-        x.rule(8, 9, 1, 0, 0);
         for (int operation = -1; operation <= 8; operation++) {
+            GrammarWorks x = new GrammarWorks();
+            x.rule(8, 9, 1, 0, 0);
             for (int code = -12; code <= 45; code++) {
                 checkCodes(x, operation, code);
             }
+            Check.answers(0, () -> x.equation(0, 0, 0, Integer.MIN_VALUE, Integer.MAX_VALUE), "numbers of operation 0");
+            Check.refuses(ARGUMENT, () -> x.equation(0, 0, 1, Integer.MIN_VALUE, 0), "the lowest code");
+            Check.refuses(ARGUMENT, () -> x.equation(0, 0, 2, 0, Integer.MAX_VALUE), "the highest code");
         }
-        Check.answers(0, () -> x.equation(0, 0, 0, Integer.MIN_VALUE, Integer.MAX_VALUE), "numbers of operation 0");
-        Check.refuses(ARGUMENT, () -> x.equation(0, 0, 1, Integer.MIN_VALUE, 0), "the lowest code");
-        Check.refuses(ARGUMENT, () -> x.equation(0, 0, 2, 0, Integer.MAX_VALUE), "the highest code");
     }
 
     private static void checkCodes(GrammarWorks x, int operation, int code) {
