@@ -23,8 +23,8 @@ public final class QuotesTest {
 
     public static void main(String[] args) throws IOException {
         if (!Files.exists(DOCUMENT)) {
-            System.out.println("there is no " + DOCUMENT + " to compare with");
-            return;
+            Check.holds(false, "there is a document at " + DOCUMENT);
+            Check.end();
         }
         Map<String, String> parts = parts(Files.readString(DOCUMENT));
         Check.answers(17, parts::size, "the promises and the terms");
